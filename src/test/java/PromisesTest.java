@@ -170,6 +170,10 @@ public final class PromisesTest {
             {"valley;person0 0 0 0 0 0;coat 0;", 31}, {"valley;thing 0 0 0;", 17}, {"valley;thing 6 0 0;", 13},
             {"valley;thing 0 4 0;", 15}, {"valley;lose 0;", 12}, {"valley;days 0;", 12}, {"valley;days 00;", 12},
             {"valley;days 100;", 12}, {"valley;days 5", 13}, {"valley;days ;", 12}, {"valley;days 5 ", 14},
+            {"xalley;", 0}, {"valleyz;", 0}, {"zvalley;", 0}, {"valley;person 0 0 0 0", 21}, {"valley;coat", 11},
+            {"valley;coat ", 12}, {"valley;person0 0 0 0 0 0;coat 0", 31}, {"valley;person0 0 0 0 0 0;coat 0 1", 33},
+            {"valley;thing", 12}, {"valley;thing 0", 14}, {"valley;thing 0 0", 16}, {"valley;lose", 11}, {"valley;days", 11},
+            {"valley;person0 0 0 0 0 0;thing 0 0 0", 36}, {"valley;person0 0 0 0 0 0;thing 0 0 0;lose 0", 43},
             {"valley;days 5 5;", 14}, {"valley;days 5;\u0000", 14}, {"valley;days 5;\t", 14}, {"valley;days 5;`", 14},
             {"valley;days 5;{", 14}, {"valley;days 5;/", 14}, {"valley;days 5;:", 14}, {"valley;days 5;@", 14},
             {"valley;person0 0 0 0 0 0;thing 0 0 0;lose 0;lose 0;", 49},
@@ -218,6 +222,11 @@ public final class PromisesTest {
         due("7 image stays", x.from(0), 1);
         due("7 fraction stays", x.part(0), 1);
         due("7 status stays", x.status(0), 1);
+        due("7 edges", readText(x, "valley;person 5 19 9 9 9 9;person 0 0 0 0 0 0;coat 1 9;coat 1 0;thing 5 3 1;thing 0 2 0;"
+            + "thing 2 0 1;lose 2;days 1;lose 1;"), 11);
+        int[][] things = {{5, 3, 1, 1, 0}, {0, 2, 0, 0, 1}, {2, 0, 1, 1, 2}};
+        for (int t = 0; t < 3; t++) for (int w = 0; w < 5; w++) due("7 about " + t + " " + w, x.about(t, w), things[t][w]);
+        due("7 coat taken off", x.of(1, 2), 0);
         due("7 lies on the boundary", readText(x, "valley;person 0 0 5 0 0 0;thing 0 0 0;lose 0;days 99;"), 5);
         due("7 lies", x.about(0, 4), 2);
         due("7 day", x.count(2), 99);
@@ -372,6 +381,7 @@ public final class PromisesTest {
         due("12 the coat is off", x.of(0, 2), 0);
         due("12 no more", x.undo(), NO);
         due("12 notes stay", x.count(5), 1);
+        severalUndone();
         for (int c = 1; c <= 9; c++) x.coat(1, c);
         due("12 eight", x.count(7), 8);
         for (int i = 0; i < 8; i++) due("12 back", x.undo(), 0);
@@ -387,6 +397,29 @@ public final class PromisesTest {
         x.person(PLAIN, 0, 0, 0, 0, 0);
         due("12 behind a person", x.undo(), NO);
         refused("12", x, 2, 5, 0);
+    }
+
+    private static void severalUndone() {
+        LeastNeed x = village();
+        for (int t = 0; t < 5; t++) x.thing(t == 4 ? SHY : PLAIN, t % 4, t);
+        for (int t = 0; t < 5; t++) x.lose(t);
+        for (int p = 1; p < 3; p++) x.coat(p, p + 3);
+        due("12 legs, purse and the shy one lie", x.day(1), 3);
+        due("12 sight came to the nun", x.about(0, 3), 5);
+        due("12 the purse lies", x.about(2, 4), 2);
+        due("12 courage came to the plain one", x.about(3, 3), 0);
+        x.coat(2, 9);
+        due("12 the coat", x.undo(), 1);
+        due("12 the days", x.undo(), 0);
+        for (int t = 0; t < 5; t++) {
+            due("12 lost by " + t, x.about(t, 3), t);
+            due("12 lost " + t, x.about(t, 4), 1);
+        }
+        due("12 coats stay", x.of(1, 2) * 10 + x.of(2, 2), 45);
+        for (int i = 0; i < 3; i++) x.undo();
+        due("12 one is lost no more", x.about(4, 4), 0);
+        due("12 the others are", x.count(3), 4);
+        due("12 no coats", x.of(1, 2) + x.of(2, 2), 0);
     }
 
     private static void promise13() {
@@ -587,6 +620,8 @@ public final class PromisesTest {
         due("19 by the boundary", z.send(0, 2, 0), 2);
         due("19 by the boundary, one loss", z.send(0, 2, 1), 1);
         z.lose(0);
+        due("19 lost, today it lies", z.send(0, 2, 0), 2);
+        due("19 lost, today it lies, no loss", z.send(0, 2, 1), 0);
         z.day(1);
         due("19 on the boundary", z.about(0, 4), 2);
         due("19 from the boundary", z.send(0, 2, 0), 1);
@@ -703,6 +738,22 @@ public final class PromisesTest {
         due("22 without it", x.few(11), 1);
         due("22 without it", x.few(12), 2);
         due("21 nothing is changed", x.about(3, 3), 2);
+        fewOfUnsortedOnes();
+    }
+
+    private static void fewOfUnsortedOnes() {
+        int[][] prices = {{9, 1, 5}, {1, 5, 9}, {5, 9, 1}, {9, 5, 1}, {5, 1, 9}};
+        for (int[] ask : prices) {
+            LeastNeed x = new LeastNeed();
+            x.person(PLAIN, 0, 9, 9, 9, 9);
+            x.person(PLAIN, 0, 9 - ask[0], 9 - ask[1], 9 - ask[2], 9);
+            for (int t = 0; t < 3; t++) x.thing(PLAIN, t, 0);
+            for (int t = 0; t < 3; t++) x.lose(t);
+            x.day(1);
+            due("21 together", x.costs(), 15);
+            int[] few = {0, 1, 1, 1, 1, 1, 2, 2, 2, 2, 2, 2, 2, 2, 2, 3, 3};
+            for (int i = 0; i < few.length; i++) due("22 few for " + i, x.few(i), few[i]);
+        }
     }
 
     private static void promise22() {
@@ -1108,7 +1159,37 @@ public final class PromisesTest {
         y.image(0);
         due("36 not that one", y.from(1), NO);
         due("36 an empty one", y.from(0), 1);
+        otherThingsInBetween();
         refused("36", y, 0, 2, 0);
+    }
+
+    private static void otherThingsInBetween() {
+        LeastNeed x = village();
+        for (int t = 0; t < 3; t++) x.thing(5 - t, 3 - t, t + 1);
+        x.note(1, 2, 3, 1, 5, 6);
+        x.came(1, 2, 3, 4);
+        for (int c = 1; c < 4; c++) x.coat(c, c);
+        x.lose(1);
+        long then = x.digest();
+        x.image(1);
+        x.valley();
+        for (int p = 0; p < 7; p++) x.person(p % 2, 1, 7, 6, 5, 4);
+        for (int t = 0; t < 5; t++) x.thing(t % 2, 0, 6);
+        for (int i = 0; i < 3; i++) {
+            x.note(0, 1, 1, 1, 1, 1);
+            x.came(0, 1, 1, 0);
+        }
+        for (int c = 1; c < 9; c++) x.coat(6, c);
+        long other = x.digest();
+        x.image(0);
+        due("36 the valley told first", x.from(1), 1);
+        due("36 all as then", x.digest(), then);
+        for (int t = 0; t < 3; t++) due("36 its things", x.about(t, 1) * 10 + x.about(t, 2), 10 * (3 - t) + t + 1);
+        due("36 its notes fit none", x.is(1), 0);
+        for (int i = 0; i < 4; i++) x.undo();
+        due("36 its past", x.of(3, 2) + x.about(1, 4) + x.count(7), 0);
+        x.from(0);
+        due("36 the other one", x.digest(), other);
     }
 
     private static void promise37() {
