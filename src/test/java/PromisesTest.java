@@ -193,6 +193,13 @@ public final class PromisesTest {
 
     private static void promise7() {
         promise7faults();
+        String filled = "valley;" + "days99;".repeat(19);
+        due("7 a full text", readText(plain(1), filled + "         ;"), -159);
+        due("7 a full text of blanks", readText(plain(1), filled + "          "), 20);
+        due("7 a full text, ending in a word", readText(plain(1), filled + "      days"), -160);
+        due("7 a full text, ending in a wrong word", readText(plain(1), filled + "         x"), -159);
+        due("7 a full text, ending in a number", readText(plain(1), filled + "    days 9"), -160);
+        due("7 a full text, ending in an item", readText(plain(1), filled + "   days 9;"), 21);
         LeastNeed x = plain(1, 2);
         x.note(0, 0, 0, 0, 0, 0);
         x.coat(0, 3);
