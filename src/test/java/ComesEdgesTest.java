@@ -55,7 +55,9 @@ public final class ComesEdgesTest extends Edges {
     static void promise15_theOthersAlikeOnOddDays() {
         int[] kinds = {PLAIN, RICH, PROUD};
         int[] shown = {7, 3, 7};
-        for (int i = 0; i < 3; i++) showsAll("kind " + kinds[i], onDay(1, one(kinds[i], 7)), shown[i], shown[i], shown[i], shown[i]);
+        for (int i = 0; i < 3; i++) {
+            showsAll("kind " + kinds[i], onDay(1, one(kinds[i], 7)), shown[i], shown[i], shown[i], shown[i]);
+        }
         showsAll("miller", onDay(1, one(MILLER, 7)), 3, 3, 0, 3);
         showsAll("nun", onDay(1, one(NUN, 7)), 0, 0, 0, 7);
     }
@@ -164,6 +166,19 @@ public final class ComesEdgesTest extends Edges {
             due("19 up", withThing(kind, housed(new int[] {0, 19}, 9, 0)).comes(0), NONE);
         }
         due("plain ones come as far as you like", withThing(PLAIN, housed(new int[] {0, 19}, 9, 9)).comes(0), 1);
+    }
+
+    static void promise16_fromTheHouseOfWhoLostItNotOfItsOwner() {
+        LeastNeed x = withThing(ALIVE, housed(new int[] {0, 6, 12}, 9, 4, 3));
+        due("12 is too far from 0", x.comes(0), 1);
+        x.lose(0);
+        x.day(1);
+        due("1 has it: 12 is not too far from 6", x.comes(0), 2);
+        x.lose(0);
+        due("lost by 1", x.comes(0), 2);
+        x.day(1);
+        due("2 has it", x.about(0, 3), 2);
+        due("from 12 to 6 alone", x.comes(0), 1);
     }
 
     static void promise16_oneTooFarDoesNotMakeThemAlike() {

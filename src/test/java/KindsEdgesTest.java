@@ -628,7 +628,9 @@ public final class KindsEdgesTest extends Edges {
         due("had by its owner", x.years(1, 2), 2);
     }
 
-    static void promise33_whatIsLostThatDayComesThatDay() { due("thing 0 on the first day", withThing(PLAIN, plain(1, 2)).years(0, 1), 0); }
+    static void promise33_whatIsLostThatDayComesThatDay() {
+        due("thing 0 on the first day", withThing(PLAIN, plain(1, 2)).years(0, 1), 0);
+    }
 
     /** On 9999, an odd day, 4 and 4 like it; on the day behind it 4 and 2, its owner. */
     static void promise33_daysGoBeyondTheLastOne() {
