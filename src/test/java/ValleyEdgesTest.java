@@ -53,6 +53,17 @@ public final class ValleyEdgesTest extends Edges {
         due("FULL", LeastNeed.FULL, -4);
     }
 
+    static void promise1_usedForAll512Calls() {
+        LeastNeed x = plain(1, 2);
+        x.thing(PLAIN, SIGHT, 0);
+        for (int i = 0; i < 250; i++) {
+            due("call " + (4 + 2 * i), x.coat(1, (i + 1) % 10), i % 10);
+            due("call " + (5 + 2 * i), x.day(1), 0);
+        }
+        for (int i = 7; i >= 0; i--) due("call " + (511 - i), x.undo(), 246 + i / 2);
+        due("the last one", x.count(2), 246);
+    }
+
     // ---- 2: valley
 
     static void promise2_nobodyWasThere() {
